@@ -1,0 +1,210 @@
+/** Many groups, made by a fixed row of numbers, with all answers held against NaiveGroup's. */
+public final class AgainstNaiveTest {
+    /** The document promises nothing after 512 calls, so an object is left before that. */
+    private static final int CALLS_OF_AN_OBJECT = 450;
+
+    private static final int[][] ORDERS = {
+        {2}, {13}, {2, 2}, {2, 3}, {3, 2}, {2, 2, 2}, {3, 3}, {2, 5}, {5, 2}, {2, 7}, {3, 7}, {5, 11},
+        {3, 13}, {2, 2, 3}, {2, 3, 2}, {3, 2, 2}, {2, 2, 2, 2}, {2, 3, 3}, {3, 2, 3}, {2, 3, 2, 2},
+        {3, 2, 2, 2}, {2, 2, 5}, {3, 3, 3}, {2, 2, 2, 2, 2}, {2, 3, 7}, {7, 2, 2, 2}, {2, 2, 3, 3},
+        {5, 5, 5}, {3, 2, 2, 2, 2}, {2, 3, 2, 2, 2}, {2, 2, 2, 2, 2, 2}, {2, 2, 2, 2, 2, 2, 2},
+        {5, 2, 2, 2, 2}, {11, 11}, {2, 5, 11}, {3, 3, 13}, {2, 2, 2, 3, 3}, {2, 3, 3, 3, 2}
+    };
+
+    private static long seed = 20261115L;
+    private static CollectedGroup group;
+    private static int callsLeft;
+
+    public static void main(String[] args) {
+        for (int[] orders : ORDERS) {
+            for (int k = 0; k < 25; k++) {
+                anyRelations(orders);
+            }
+            for (int k = 0; k < 4; k++) {
+                builtRelations(orders);
+            }
+        }
+        Check.end();
+    }
+
+    private static int below(int limit) {
+        seed = seed * 6364136223846793005L + 1442695040888963407L;
+        return (int) ((seed >>> 33) % limit);
+    }
+
+    /** Mostly not consistent: what fix answers is what is looked at. */
+    private static void anyRelations(int[] orders) {
+        NaiveGroup naive = new NaiveGroup(orders);
+        for (int changes = 1 + below(3); changes > 0; changes--) {
+            int i = below(orders.length);
+            if (below(3) == 0) {
+                naive.powers[i] = below(naive.weights[i]);
+            } else if (i + 1 < orders.length) {
+                int j = i + 1 + below(orders.length - i - 1);
+                naive.conjugates[i][j] = below(naive.weights[i]);
+            }
+        }
+        boolean consistent = naive.consistent();
+        group = withRelations(naive);
+        Check.due(named(naive, "fix()"), group.fix(), consistent);
+        Check.due(named(naive, "fixed()"), group.fixed(), consistent);
+        if (consistent) {
+            lookAtSome(naive);
+        }
+    }
+
+    /** Relations chosen from the last generator on, so that most are consistent and far from trivial. */
+    private static void builtRelations(int[] orders) {
+        NaiveGroup naive = new NaiveGroup(orders);
+        for (int i = orders.length - 1; i >= 0; i--) {
+            chooseLevel(naive, i);
+        }
+        Check.due(named(naive, "consistent"), naive.consistent(), true);
+        lookAtSome(naive);
+        lookAtSubgroups(naive);
+        lookAtAll(naive);
+    }
+
+    private static void chooseLevel(NaiveGroup naive, int i) {
+        for (int attempt = 0; attempt < 60; attempt++) {
+            naive.powers[i] = below(2) == 0 ? 0 : below(naive.weights[i]);
+            for (int j = i + 1; j < naive.orders.length; j++) {
+                int kind = below(3);
+                int weight = naive.weights[j];
+                naive.conjugates[i][j] = kind == 0 ? weight
+                    : kind == 1 ? weight * (1 + below(naive.orders[j] - 1)) + below(weight)
+                    : below(naive.weights[i]);
+            }
+            if (naive.consistentFrom(i)) {
+                return;
+            }
+        }
+        naive.powers[i] = 0;
+        for (int j = i + 1; j < naive.orders.length; j++) {
+            naive.conjugates[i][j] = naive.weights[j];
+        }
+    }
+
+    private static CollectedGroup withRelations(NaiveGroup naive) {
+        CollectedGroup made = new CollectedGroup(naive.digits());
+        callsLeft = CALLS_OF_AN_OBJECT;
+        for (int i = 0; i < naive.orders.length; i++) {
+            Check.due(named(naive, "power"), made.power(i, naive.powers[i]), true);
+            for (int j = i + 1; j < naive.orders.length; j++) {
+                Check.due(named(naive, "conjugate"), made.conjugate(i, j, naive.conjugates[i][j]), true);
+            }
+        }
+        return made;
+    }
+
+    private static void renew(NaiveGroup naive) {
+        group = withRelations(naive);
+        Check.due(named(naive, "fix()"), group.fix(), true);
+    }
+
+    private static void call(NaiveGroup naive) {
+        callsLeft--;
+        if (callsLeft < 40) {
+            renew(naive);
+        }
+    }
+
+    private static String named(NaiveGroup naive, String call) {
+        return java.util.Arrays.toString(naive.orders) + java.util.Arrays.toString(naive.powers)
+            + java.util.Arrays.deepToString(naive.conjugates) + ": " + call;
+    }
+
+    private static void lookAtSome(NaiveGroup naive) {
+        renew(naive);
+        Check.due(named(naive, "size()"), group.size(), naive.size);
+        for (int k = 0; k < 40; k++) {
+            int a = below(naive.size);
+            int b = below(naive.size);
+            int n = below(4) == 0 ? below(1 << 30) * 4 : below(300) - 150;
+            Check.due(named(naive, "product"), group.product(a, b), naive.product(a, b));
+            Check.due(named(naive, "times"), group.times(a, n), naive.times(a, n));
+            Check.due(named(naive, "conjugated"), group.conjugated(a, b), naive.conjugated(a, b));
+            Check.due(named(naive, "commutator"), group.commutator(a, b), naive.commutator(a, b));
+        }
+        lookAtSeries(naive);
+    }
+
+    private static void lookAtSeries(NaiveGroup naive) {
+        boolean[] derived = naive.whole();
+        boolean[] lower = naive.whole();
+        for (int k = 0; k < 9; k++) {
+            Check.due(named(naive, "derived"), group.derived(k), NaiveGroup.count(derived));
+            Check.due(named(naive, "lower"), group.lower(k), NaiveGroup.count(lower));
+            derived = naive.commutators(derived, derived);
+            lower = naive.commutators(lower, naive.whole());
+        }
+    }
+
+    private static void lookAtSubgroups(NaiveGroup naive) {
+        renew(naive);
+        boolean[][] places = {naive.trivial(), naive.trivial(), naive.trivial(), naive.trivial()};
+        for (int step = 0; step < 40; step++) {
+            int s = below(4);
+            int t = below(4);
+            int u = below(4);
+            int a = below(naive.size);
+            int got;
+            switch (below(6)) {
+                case 0 -> {
+                    places[u] = naive.trivial();
+                    got = group.clear(u);
+                }
+                case 1, 2 -> {
+                    places[u] = naive.joined(places[u], a);
+                    got = group.join(u, a);
+                }
+                case 3 -> {
+                    places[u] = naive.spread(places[u]);
+                    got = group.spread(u);
+                }
+                default -> {
+                    places[u] = naive.commutators(places[s], places[t]);
+                    got = group.commute(s, t, u);
+                }
+            }
+            Check.due(named(naive, "a subgroup's call"), got, NaiveGroup.count(places[u]));
+            Check.due(named(naive, "has"), group.has(s, a), places[s][a]);
+            for (int p = 0; p < 4; p++) {
+                Check.due(named(naive, "count"), group.count(p), NaiveGroup.count(places[p]));
+            }
+        }
+        for (int a = 0; a < naive.size && a < 40; a++) {
+            int element = naive.size <= 40 ? a : below(naive.size);
+            for (int p = 0; p < 4; p++) {
+                Check.due(named(naive, "has"), group.has(p, element), places[p][element]);
+            }
+        }
+    }
+
+    private static void lookAtAll(NaiveGroup naive) {
+        renew(naive);
+        int centre = 0;
+        int classes = 0;
+        for (int a = 0; a < naive.size; a++) {
+            boolean[] kin = naive.classOf(a);
+            int amount = NaiveGroup.count(kin);
+            int head = NaiveGroup.least(kin);
+            centre += amount == 1 ? 1 : 0;
+            classes += head == a ? 1 : 0;
+            Check.due(named(naive, "kin"), group.kin(a), amount);
+            call(naive);
+            Check.due(named(naive, "head"), group.head(a), head);
+            call(naive);
+            Check.due(named(naive, "order"), group.order(a), naive.order(a));
+            call(naive);
+            Check.due(named(naive, "times -1"), group.times(a, -1), naive.inverse(a));
+            call(naive);
+            for (int b = 0; b < naive.size; b++) {
+                Check.due(named(naive, "product"), group.product(a, b), naive.product(a, b));
+                call(naive);
+            }
+        }
+        Check.due(named(naive, "centre"), group.centre(), centre);
+        Check.due(named(naive, "classes"), group.classes(), classes);
+    }
+}
