@@ -11,12 +11,36 @@ public final class AgainstNaiveTest {
         {5, 2, 2, 2, 2}, {11, 11}, {2, 5, 11}, {3, 3, 13}, {2, 2, 2, 3, 3}, {2, 3, 3, 3, 2}
     };
 
+    /**
+     * Groups that are seldom met by chance: the orders, {i, p(i)} and {i, j, c(i, j)}. In their order
+     * S4, SL(2, 3), 2^3:7, 2^4:5, 3^2:4, 3^2:Q8, 5^2:3, 11:5, 13:6.
+     */
+    private static final int[][][] KNOWN = {
+        {{2, 3, 2, 2}, {1, 2, 1}, {1, 3, 3}, {0, 1, 8}, {0, 2, 1}, {0, 3, 2}},
+        {{3, 2, 2, 2}, {1, 1}, {2, 1}, {1, 2, 3}, {0, 1, 2}, {0, 2, 6}},
+        {{7, 2, 2, 2}, {0, 1, 2}, {0, 2, 1}, {0, 3, 6}},
+        {{5, 2, 2, 2, 2}, {0, 1, 4}, {0, 2, 2}, {0, 3, 1}, {0, 4, 15}},
+        {{2, 2, 3, 3}, {0, 9}, {1, 2, 6}, {1, 3, 2}, {0, 2, 1}, {0, 3, 6}},
+        {{2, 2, 2, 3, 3}, {0, 9}, {1, 9}, {2, 3, 6}, {2, 4, 2}, {1, 3, 1}, {1, 4, 6}, {0, 3, 4},
+            {0, 4, 5}, {0, 1, 27}},
+        {{3, 5, 5}, {0, 1, 1}, {0, 2, 24}},
+        {{5, 11}, {0, 1, 3}},
+        {{2, 3, 13}, {1, 2, 3}, {0, 2, 12}},
+    };
+
     private static long seed = 20261115L;
     private static CollectedGroup group;
     private static int callsLeft;
+    /** What an object is fixed to before it is released and given the relations to be looked at. */
+    private static NaiveGroup earlier;
 
     public static void main(String[] args) {
+        for (int[][] known : KNOWN) {
+            earlier = null;
+            knownRelations(known);
+        }
         for (int[] orders : ORDERS) {
+            earlier = null;
             for (int k = 0; k < 25; k++) {
                 anyRelations(orders);
             }
@@ -59,8 +83,27 @@ public final class AgainstNaiveTest {
         for (int i = orders.length - 1; i >= 0; i--) {
             chooseLevel(naive, i);
         }
+        lookAt(naive);
+        earlier = naive;
+    }
+
+    private static void knownRelations(int[][] known) {
+        NaiveGroup naive = new NaiveGroup(known[0]);
+        for (int k = 1; k < known.length; k++) {
+            int[] relation = known[k];
+            if (relation.length == 2) {
+                naive.powers[relation[0]] = relation[1];
+            } else {
+                naive.conjugates[relation[0]][relation[1]] = relation[2];
+            }
+        }
+        lookAt(naive);
+    }
+
+    private static void lookAt(NaiveGroup naive) {
         Check.due(named(naive, "consistent"), naive.consistent(), true);
         lookAtSome(naive);
+        lookAtPairs(naive);
         lookAtSubgroups(naive);
         lookAtAll(naive);
     }
@@ -88,13 +131,23 @@ public final class AgainstNaiveTest {
     private static CollectedGroup withRelations(NaiveGroup naive) {
         CollectedGroup made = new CollectedGroup(naive.digits());
         callsLeft = CALLS_OF_AN_OBJECT;
+        if (earlier != null) {
+            setRelations(made, earlier);
+            Check.due(named(earlier, "fix()"), made.fix(), true);
+            Check.due(named(earlier, "join"), made.join(3, 0), 1);
+            made.release();
+        }
+        setRelations(made, naive);
+        return made;
+    }
+
+    private static void setRelations(CollectedGroup made, NaiveGroup naive) {
         for (int i = 0; i < naive.orders.length; i++) {
             Check.due(named(naive, "power"), made.power(i, naive.powers[i]), true);
             for (int j = i + 1; j < naive.orders.length; j++) {
                 Check.due(named(naive, "conjugate"), made.conjugate(i, j, naive.conjugates[i][j]), true);
             }
         }
-        return made;
     }
 
     private static void renew(NaiveGroup naive) {
@@ -137,6 +190,24 @@ public final class AgainstNaiveTest {
             Check.due(named(naive, "lower"), group.lower(k), NaiveGroup.count(lower));
             derived = naive.commutators(derived, derived);
             lower = naive.commutators(lower, naive.whole());
+        }
+    }
+
+    /** Commutators of small subgroups, where those of what generates them are not yet all. */
+    private static void lookAtPairs(NaiveGroup naive) {
+        renew(naive);
+        for (int k = 0; k < 40; k++) {
+            int a = below(naive.size);
+            int b = below(naive.size);
+            boolean[] s = naive.joined(naive.trivial(), a);
+            boolean[] t = naive.joined(naive.trivial(), b);
+            group.clear(0);
+            group.clear(1);
+            Check.due(named(naive, "join"), group.join(0, a), NaiveGroup.count(s));
+            Check.due(named(naive, "join"), group.join(1, b), NaiveGroup.count(t));
+            int want = NaiveGroup.count(naive.commutators(s, t));
+            Check.due(named(naive, "commute"), group.commute(0, 1, 2), want);
+            Check.due(named(naive, "spread"), group.spread(0), NaiveGroup.count(naive.spread(s)));
         }
     }
 

@@ -12,6 +12,7 @@ public final class PromisesTest {
         promise6Conjugate();
         promise7FixRefuses();
         promise7FixTwice();
+        promise7FixOtherRelations();
         promise8Release();
         promise9Fixed();
         promise10Product();
@@ -264,6 +265,27 @@ public final class PromisesTest {
         }
     }
 
+    private static void promise7FixOtherRelations() {
+        // Nothing of the cyclic group may be left when its generators do not generate all any more.
+        CollectedGroup x = cyclic128();
+        Check.due("Z128 join", x.join(0, 64), 128);
+        x.release();
+        for (int i = 0; i < 6; i++) {
+            Check.due("power to 0", x.power(i, 0), true);
+        }
+        // g(4), g(5) and g(6) make a dihedral group of 8 now; the others stand apart.
+        Check.due("conjugate(4, 5, 3)", x.conjugate(4, 5, 3), true);
+        Check.due("fix", x.fix(), true);
+        Check.due("join", x.join(0, 64), 2);
+        Check.due("derived(0)", x.derived(0), 128);
+        Check.due("derived(1)", x.derived(1), 2);
+        Check.due("lower(1)", x.lower(1), 2);
+        Check.due("centre()", x.centre(), 32);
+        Check.due("classes()", x.classes(), 80);
+        Check.due("join g(5)", x.join(1, 2), 2);
+        Check.due("spread", x.spread(1), 4);
+    }
+
     private static void promise8Release() {
         CollectedGroup x = symmetric3();
         Check.due("join", x.join(2, 3), 2);
@@ -438,7 +460,13 @@ public final class PromisesTest {
         Check.due("u is t", x.commute(2, 0, 0), 4);
         Check.due("u is s", x.commute(1, 0, 1), 2);
         Check.due("with 0 alone", x.commute(3, 2, 2), 1);
-        // Here a commutator of generators does not yet generate all: its conjugates are needed.
+        // Here a commutator of generators does not yet generate all: its conjugates by the second,
+        // or by the first, are needed.
+        CollectedGroup y = symmetric4();
+        Check.due("Z2 join", y.join(0, 1), 2);
+        Check.due("Z3 join", y.join(1, 4), 3);
+        Check.due("Z2 with Z3", y.commute(0, 1, 2), 4);
+        Check.due("Z3 with Z2", y.commute(1, 0, 3), 4);
         Check.due("Z4 join", x.join(3, 14), 4);
         Check.due("Z3 join", x.join(2, 4), 3);
         Check.due("commute(3, 2, 1)", x.commute(3, 2, 1), 12);
