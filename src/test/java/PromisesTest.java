@@ -37,46 +37,6 @@ public final class PromisesTest {
         Check.end();
     }
 
-    // Groups that several promises look at.
-
-    /** g(0) of order 2 turns g(1) of order 3 round. */
-    private static CollectedGroup symmetric3() {
-        CollectedGroup x = new CollectedGroup(0x32);
-        Check.due("S3 conjugate", x.conjugate(0, 1, 2), true);
-        Check.due("S3 fix", x.fix(), true);
-        return x;
-    }
-
-    private static CollectedGroup symmetric4() {
-        CollectedGroup x = new CollectedGroup(0x2232);
-        Check.due("S4 conjugate(1, 2, 1)", x.conjugate(1, 2, 1), true);
-        Check.due("S4 conjugate(1, 3, 3)", x.conjugate(1, 3, 3), true);
-        Check.due("S4 conjugate(0, 1, 8)", x.conjugate(0, 1, 8), true);
-        Check.due("S4 conjugate(0, 2, 1)", x.conjugate(0, 2, 1), true);
-        Check.due("S4 conjugate(0, 3, 2)", x.conjugate(0, 3, 2), true);
-        Check.due("S4 fix", x.fix(), true);
-        return x;
-    }
-
-    private static CollectedGroup quaternions() {
-        CollectedGroup x = new CollectedGroup(0x222);
-        Check.due("Q8 power(0, 1)", x.power(0, 1), true);
-        Check.due("Q8 power(1, 1)", x.power(1, 1), true);
-        Check.due("Q8 conjugate", x.conjugate(0, 1, 3), true);
-        Check.due("Q8 fix", x.fix(), true);
-        return x;
-    }
-
-    /** The cyclic group of seven twos: every generator's power is the next generator. */
-    private static CollectedGroup cyclic128() {
-        CollectedGroup x = new CollectedGroup(0x2222222);
-        for (int i = 0; i < 6; i++) {
-            Check.due("Z128 power", x.power(i, x.generator(i + 1)), true);
-        }
-        Check.due("Z128 fix", x.fix(), true);
-        return x;
-    }
-
     private static void made(int orders, int generators, int size) {
         CollectedGroup x = new CollectedGroup(orders);
         String name = "new CollectedGroup(0x" + Integer.toHexString(orders) + ")";
@@ -246,7 +206,7 @@ public final class PromisesTest {
     }
 
     private static void promise7FixTwice() {
-        CollectedGroup x = symmetric3();
+        CollectedGroup x = Groups.symmetric3();
         for (int s = 0; s < 4; s++) {
             Check.due("new place", x.count(s), 1);
             Check.due("new place has 0", x.has(s, 0), true);
@@ -267,7 +227,7 @@ public final class PromisesTest {
 
     private static void promise7FixOtherRelations() {
         // Nothing of the cyclic group may be left when its generators do not generate all any more.
-        CollectedGroup x = cyclic128();
+        CollectedGroup x = Groups.cyclic128();
         Check.due("Z128 join", x.join(0, 64), 128);
         x.release();
         for (int i = 0; i < 6; i++) {
@@ -287,7 +247,7 @@ public final class PromisesTest {
     }
 
     private static void promise8Release() {
-        CollectedGroup x = symmetric3();
+        CollectedGroup x = Groups.symmetric3();
         Check.due("join", x.join(2, 3), 2);
         x.release();
         Check.due("fixed()", x.fixed(), false);
@@ -317,7 +277,7 @@ public final class PromisesTest {
     }
 
     private static void promise10Product() {
-        CollectedGroup x = quaternions();
+        CollectedGroup x = Groups.quaternions();
         Check.due("i j", x.product(4, 2), 6);
         Check.due("j i", x.product(2, 4), 7);
         Check.due("i i", x.product(4, 4), 1);
@@ -329,14 +289,14 @@ public final class PromisesTest {
             Check.due("a 0", x.product(a, 0), a);
         }
         // p(i) stands before what has passed g(i): the words do not commute here.
-        CollectedGroup z = cyclic128();
+        CollectedGroup z = Groups.cyclic128();
         Check.due("Z128: 1 + 1", z.product(64, 64), 32);
         Check.due("Z128: last and last", z.product(1, 1), 0);
         Check.due("Z128: -1 - 1", z.product(127, 127), 63);
     }
 
     private static void promise11Times() {
-        CollectedGroup x = cyclic128();
+        CollectedGroup x = Groups.cyclic128();
         Check.due("times(64, 0)", x.times(64, 0), 0);
         Check.due("times(64, 1)", x.times(64, 1), 64);
         Check.due("times(64, 2)", x.times(64, 2), 32);
@@ -381,20 +341,20 @@ public final class PromisesTest {
     }
 
     private static void promise14Order() {
-        CollectedGroup x = symmetric4();
+        CollectedGroup x = Groups.symmetric4();
         Check.due("order(0)", x.order(0), 1);
         Check.due("order(1)", x.order(1), 2);
         Check.due("order(4)", x.order(4), 3);
         Check.due("order(12)", x.order(12), 2);
         Check.due("order(14)", x.order(14), 4);
-        CollectedGroup z = cyclic128();
+        CollectedGroup z = Groups.cyclic128();
         Check.due("Z128 order of g(0)", z.order(64), 128);
         Check.due("Z128 order of g(6)", z.order(1), 2);
         Check.due("Z128 order of the last", z.order(127), 128);
     }
 
     private static void promise15Clear() {
-        CollectedGroup x = symmetric3();
+        CollectedGroup x = Groups.symmetric3();
         Check.due("join(1, 1)", x.join(1, 1), 3);
         Check.due("join(2, 3)", x.join(2, 3), 2);
         Check.due("clear(1)", x.clear(1), 1);
@@ -407,7 +367,7 @@ public final class PromisesTest {
     }
 
     private static void promise16Join() {
-        CollectedGroup x = symmetric4();
+        CollectedGroup x = Groups.symmetric4();
         Check.due("join(0, 0)", x.join(0, 0), 1);
         Check.due("join(0, 1)", x.join(0, 1), 2);
         Check.due("join(0, 1) again", x.join(0, 1), 2);
@@ -429,7 +389,7 @@ public final class PromisesTest {
     }
 
     private static void promise17Spread() {
-        CollectedGroup x = symmetric4();
+        CollectedGroup x = Groups.symmetric4();
         Check.due("of 0", x.spread(0), 1);
         Check.due("join(0, 1)", x.join(0, 1), 2);
         Check.due("spread(0)", x.spread(0), 4);
@@ -440,13 +400,13 @@ public final class PromisesTest {
         Check.due("join(2, 12)", x.join(2, 12), 2);
         Check.due("spread(2)", x.spread(2), 24);
         Check.due("another place", x.count(3), 1);
-        CollectedGroup q = quaternions();
+        CollectedGroup q = Groups.quaternions();
         Check.due("Q8 join", q.join(0, 4), 4);
         Check.due("Q8 spread", q.spread(0), 4);
     }
 
     private static void promise18Commute() {
-        CollectedGroup x = symmetric4();
+        CollectedGroup x = Groups.symmetric4();
         Check.due("A4 join", x.join(0, 1), 2);
         Check.due("A4 join", x.join(0, 4), 12);
         Check.due("transposition", x.join(1, 12), 2);
@@ -462,7 +422,7 @@ public final class PromisesTest {
         Check.due("with 0 alone", x.commute(3, 2, 2), 1);
         // Here a commutator of generators does not yet generate all: its conjugates by the second,
         // or by the first, are needed.
-        CollectedGroup y = symmetric4();
+        CollectedGroup y = Groups.symmetric4();
         Check.due("Z2 join", y.join(0, 1), 2);
         Check.due("Z3 join", y.join(1, 4), 3);
         Check.due("Z2 with Z3", y.commute(0, 1, 2), 4);
@@ -479,14 +439,14 @@ public final class PromisesTest {
 
     /** Both subgroups of two elements: their commutators make three. */
     private static int commuteTwice() {
-        CollectedGroup x = symmetric3();
+        CollectedGroup x = Groups.symmetric3();
         x.join(0, 3);
         x.join(1, 4);
         return x.commute(0, 1, 0);
     }
 
     private static void promises19And20CountHas() {
-        CollectedGroup x = symmetric3();
+        CollectedGroup x = Groups.symmetric3();
         Check.due("count of 0 alone", x.count(3), 1);
         Check.due("join(3, 4)", x.join(3, 4), 2);
         Check.due("count(3)", x.count(3), 2);
@@ -513,16 +473,16 @@ public final class PromisesTest {
     }
 
     private static void promise21Derived() {
-        series(symmetric4(), new int[] {24, 12, 4, 1}, new int[] {24, 12});
-        series(symmetric3(), new int[] {6, 3, 1}, new int[] {6, 3});
-        Check.due("derived(-1)", symmetric3().derived(-1), NONE);
-        Check.due("derived(MIN)", symmetric3().derived(LEAST), NONE);
+        series(Groups.symmetric4(), new int[] {24, 12, 4, 1}, new int[] {24, 12});
+        series(Groups.symmetric3(), new int[] {6, 3, 1}, new int[] {6, 3});
+        Check.due("derived(-1)", Groups.symmetric3().derived(-1), NONE);
+        Check.due("derived(MIN)", Groups.symmetric3().derived(LEAST), NONE);
     }
 
     private static void promise22Lower() {
-        series(quaternions(), new int[] {8, 2, 1}, new int[] {8, 2, 1});
+        series(Groups.quaternions(), new int[] {8, 2, 1}, new int[] {8, 2, 1});
         // The dihedral group of 128 elements: the longest lower series that there is room for.
-        CollectedGroup x = dihedral128();
+        CollectedGroup x = Groups.dihedral128();
         series(x, new int[] {128, 32, 1}, new int[] {128, 32, 16, 8, 4, 2, 1});
         Check.due("lower(-1)", x.lower(-1), NONE);
         Check.due("lower(MIN)", x.lower(LEAST), NONE);
@@ -533,29 +493,16 @@ public final class PromisesTest {
         Check.due("count(0)", x.count(0), 2);
     }
 
-    /** g(0) turns every generator behind it, which make Z64, into its inverse. */
-    private static CollectedGroup dihedral128() {
-        CollectedGroup x = new CollectedGroup(0x2222222);
-        for (int i = 1; i < 6; i++) {
-            Check.due("D64 power", x.power(i, x.generator(i + 1)), true);
-        }
-        for (int j = 1; j < 7; j++) {
-            Check.due("D64 conjugate", x.conjugate(0, j, 2 * x.generator(j) - 1), true);
-        }
-        Check.due("D64 fix", x.fix(), true);
-        return x;
-    }
-
     private static void promise23Centre() {
-        Check.due("S3 centre", symmetric3().centre(), 1);
-        Check.due("S4 centre", symmetric4().centre(), 1);
-        Check.due("Q8 centre", quaternions().centre(), 2);
-        Check.due("Z128 centre", cyclic128().centre(), 128);
-        Check.due("D64 centre", dihedral128().centre(), 2);
+        Check.due("S3 centre", Groups.symmetric3().centre(), 1);
+        Check.due("S4 centre", Groups.symmetric4().centre(), 1);
+        Check.due("Q8 centre", Groups.quaternions().centre(), 2);
+        Check.due("Z128 centre", Groups.cyclic128().centre(), 128);
+        Check.due("D64 centre", Groups.dihedral128().centre(), 2);
     }
 
     private static void promises24To26Classes() {
-        CollectedGroup x = symmetric3();
+        CollectedGroup x = Groups.symmetric3();
         int[] kin = {1, 2, 2, 3, 3, 3};
         int[] head = {0, 1, 1, 3, 3, 3};
         for (int a = 0; a < 6; a++) {
@@ -564,17 +511,17 @@ public final class PromisesTest {
         }
         Check.due("S3 classes", x.classes(), 3);
         Check.due("S3 kin after classes", x.kin(5), 3);
-        CollectedGroup y = symmetric4();
+        CollectedGroup y = Groups.symmetric4();
         Check.due("S4 classes", y.classes(), 5);
         Check.due("S4 kin(23)", y.kin(23), 6);
         Check.due("S4 head(23)", y.head(23), 13);
         Check.due("S4 head(3)", y.head(3), 1);
         Check.due("S4 head(11)", y.head(11), 4);
-        CollectedGroup d = dihedral128();
+        CollectedGroup d = Groups.dihedral128();
         Check.due("D64 classes", d.classes(), 35);
         Check.due("D64 kin of a turn", d.kin(32), 2);
         Check.due("D64 kin of a mirror", d.kin(64), 32);
-        Check.due("Z128 classes", cyclic128().classes(), 128);
+        Check.due("Z128 classes", Groups.cyclic128().classes(), 128);
     }
 
     private static void allRefused(CollectedGroup x, int a, int s) {
@@ -620,7 +567,7 @@ public final class PromisesTest {
     }
 
     private static void refusedElementsAndPlaces() {
-        CollectedGroup x = symmetric3();
+        CollectedGroup x = Groups.symmetric3();
         int[] elements = {-1, 6, 7, 128, LEAST, MOST};
         int[] places = {-1, 4, 5, 64, LEAST, MOST};
         for (int k = 0; k < elements.length; k++) {
@@ -629,7 +576,7 @@ public final class PromisesTest {
     }
 
     private static void refusedCallsChangeNothing() {
-        CollectedGroup x = symmetric3();
+        CollectedGroup x = Groups.symmetric3();
         Check.due("join(0, 3)", x.join(0, 3), 2);
         Check.due("join(1, 1)", x.join(1, 1), 3);
         Check.due("join(0, 6)", x.join(0, 6), NONE);
