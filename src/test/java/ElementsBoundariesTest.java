@@ -8,27 +8,35 @@ public final class ElementsBoundariesTest {
         Check.sentence("Promise 10", "the product with 0", ElementsBoundariesTest::productWithZero);
         Check.sentence("Promise 10", "the product of the last with the last", ElementsBoundariesTest::productOfLast);
         Check.sentence("Promise 10", "the product of a and b, not of b and a", ElementsBoundariesTest::productInOrder);
-        Check.sentence("Promise 10", "a product that wraps through all generators", ElementsBoundariesTest::productCarries);
+        Check.sentence("Promise 10", "a product that wraps through all generators",
+            ElementsBoundariesTest::productCarries);
         Check.sentence("Promise 10", "NONE for a or b below 0", () -> productRefused(-1, -24, LEAST));
         Check.sentence("Promise 10", "NONE for a or b N or above", () -> productRefused(24, 25, 127, 128, MOST));
         Check.sentence("Promise 11", "k = 0", ElementsBoundariesTest::timesZero);
         Check.sentence("Promise 11", "k = 1", ElementsBoundariesTest::timesOne);
-        Check.sentence("Promise 11", "for k below 0 that of -k times the inverse", ElementsBoundariesTest::timesBelowZero);
+        Check.sentence("Promise 11", "for k below 0 that of -k times the inverse",
+            ElementsBoundariesTest::timesBelowZero);
         Check.sentence("Promise 11", "k the order of a, and one more or less", ElementsBoundariesTest::timesOrder);
         Check.sentence("Promise 11", "k any int: the largest", ElementsBoundariesTest::timesMost);
-        Check.sentence("Promise 11", "k any int: the least, for which -k is no int", ElementsBoundariesTest::timesLeast);
+        Check.sentence("Promise 11", "k any int: the least, for which -k is no int",
+            ElementsBoundariesTest::timesLeast);
         Check.sentence("Promise 11", "k any int, of 0", ElementsBoundariesTest::timesOfZero);
-        Check.sentence("Promise 11", "NONE for an element that isn't, whatever k is", ElementsBoundariesTest::timesRefused);
+        Check.sentence("Promise 11", "NONE for an element that isn't, whatever k is",
+            ElementsBoundariesTest::timesRefused);
         Check.sentence("Promise 12", "by 0", ElementsBoundariesTest::conjugatedByZero);
         Check.sentence("Promise 12", "of 0", ElementsBoundariesTest::conjugatedOfZero);
         Check.sentence("Promise 12", "by itself", ElementsBoundariesTest::conjugatedByItself);
-        Check.sentence("Promise 12", "the inverse of b, a and b, not b, a and its inverse", ElementsBoundariesTest::conjugatedInOrder);
-        Check.sentence("Promise 12", "NONE for a or b that isn't an element", ElementsBoundariesTest::conjugatedRefused);
+        Check.sentence("Promise 12", "the inverse of b, a and b, not b, a and its inverse",
+            ElementsBoundariesTest::conjugatedInOrder);
+        Check.sentence("Promise 12", "NONE for a or b that isn't an element",
+            ElementsBoundariesTest::conjugatedRefused);
         Check.sentence("Promise 13", "with 0", ElementsBoundariesTest::commutatorWithZero);
         Check.sentence("Promise 13", "with itself", ElementsBoundariesTest::commutatorWithItself);
-        Check.sentence("Promise 13", "the inverses of a and of b, a and b, in this order", ElementsBoundariesTest::commutatorInOrder);
+        Check.sentence("Promise 13", "the inverses of a and of b, a and b, in this order",
+            ElementsBoundariesTest::commutatorInOrder);
         Check.sentence("Promise 13", "of two that commute", ElementsBoundariesTest::commutatorCommuting);
-        Check.sentence("Promise 13", "NONE for a or b that isn't an element", ElementsBoundariesTest::commutatorRefused);
+        Check.sentence("Promise 13", "NONE for a or b that isn't an element",
+            ElementsBoundariesTest::commutatorRefused);
         Check.sentence("Promise 14", "1 for 0", ElementsBoundariesTest::orderOfZero);
         Check.sentence("Promise 14", "the least k: N in a cyclic group", ElementsBoundariesTest::orderOfAll);
         Check.sentence("Promise 14", "the least k, no multiple of it", ElementsBoundariesTest::orderLeast);
@@ -264,7 +272,7 @@ public final class ElementsBoundariesTest {
     }
 
     private static void orderOfZero() {
-        for (CollectedGroup x : new CollectedGroup[] {Groups.one(), Groups.plain(0x2), Groups.symmetric3(), Groups.cyclic128()}) {
+        for (CollectedGroup x : Groups.ofSizes1And2And6And128()) {
             Check.due("order(0)", x.order(0), 1);
         }
     }

@@ -13,6 +13,10 @@ final class Groups {
         return fixed("1", new CollectedGroup(0));
     }
 
+    static CollectedGroup[] ofSizes1And2And6And128() {
+        return new CollectedGroup[] {one(), plain(0x2), symmetric3(), cyclic128()};
+    }
+
     /** The first relations: all generators commute, and each one's power is 0. */
     static CollectedGroup plain(int orders) {
         return fixed("0x" + Integer.toHexString(orders), new CollectedGroup(orders));

@@ -26,11 +26,15 @@ public final class RefusedCallsTest {
             }
         }
         Check.sentence("Terms, Promise 5", "a call that is refused changes nothing", RefusedCallsTest::refusedPower);
-        Check.sentence("Terms, Promise 5", "a call that is refused changes nothing: fixed", RefusedCallsTest::refusedPowerFixed);
-        Check.sentence("Terms, Promise 6", "a call that is refused changes nothing", RefusedCallsTest::refusedConjugate);
-        Check.sentence("Terms, Promise 6", "a call that is refused changes nothing: fixed", RefusedCallsTest::refusedConjugateFixed);
+        Check.sentence("Terms, Promise 5", "a call that is refused changes nothing: fixed",
+            RefusedCallsTest::refusedPowerFixed);
+        Check.sentence("Terms, Promise 6", "a call that is refused changes nothing",
+            RefusedCallsTest::refusedConjugate);
+        Check.sentence("Terms, Promise 6", "a call that is refused changes nothing: fixed",
+            RefusedCallsTest::refusedConjugateFixed);
         Check.sentence("Terms, Promise 7", "a call that is refused changes nothing", RefusedCallsTest::refusedFix);
-        Check.sentence("Terms, Promise 4", "a call that is refused changes nothing", RefusedCallsTest::refusedGenerator);
+        Check.sentence("Terms, Promise 4", "a call that is refused changes nothing",
+            RefusedCallsTest::refusedGenerator);
         Check.sentence("Terms, Promise 21", "changes nothing when refused for a k below 0",
             () -> wrongArgumentChangesNothing(FixedCall.DERIVED, 'n', -1, LEAST));
         Check.sentence("Terms, Promise 22", "changes nothing when refused for a k below 0",
@@ -106,7 +110,7 @@ public final class RefusedCallsTest {
     }
 
     private static void wrongElement(FixedCall call) {
-        for (CollectedGroup x : new CollectedGroup[] {Groups.one(), Groups.plain(0x2), Groups.symmetric3(), Groups.cyclic128()}) {
+        for (CollectedGroup x : Groups.ofSizes1And2And6And128()) {
             int n = x.size();
             for (int wrong : new int[] {-1, -n, n, n + 1, 2 * n, 1 << 16, LEAST, LEAST + n - 1, MOST}) {
                 replaceEach(call, 'e', wrong, allAs(call, 0, 0, 1), x);
@@ -139,7 +143,7 @@ public final class RefusedCallsTest {
     }
 
     private static void outermostElements(FixedCall call) {
-        for (CollectedGroup x : new CollectedGroup[] {Groups.one(), Groups.plain(0x2), Groups.symmetric3(), Groups.cyclic128()}) {
+        for (CollectedGroup x : Groups.ofSizes1And2And6And128()) {
             for (int a : new int[] {0, x.size() - 1}) {
                 x.join(1, a);
                 int[] arguments = allAs(call, a, 1, 1);
@@ -179,7 +183,8 @@ public final class RefusedCallsTest {
 
     private static void refusedPower() {
         CollectedGroup x = Groups.symmetric3NotFixed();
-        int[][] wrong = {{0, 3}, {0, -1}, {0, LEAST}, {0, MOST}, {1, 1}, {1, -1}, {2, 0}, {-1, 0}, {LEAST, 1}, {MOST, 1}};
+        int[][] wrong = {{0, 3}, {0, -1}, {0, LEAST}, {0, MOST}, {1, 1}, {1, -1}, {2, 0}, {-1, 0},
+            {LEAST, 1}, {MOST, 1}};
         for (int[] v : wrong) {
             Check.due("power(" + v[0] + ", " + v[1] + ")", x.power(v[0], v[1]), false);
         }

@@ -20,32 +20,40 @@ public final class RelationsBoundariesTest {
         Check.sentence("Promise 1", "at most seven", RelationsBoundariesTest::atMostSeven);
         Check.sentence("Promise 1", "until one isn't a prime", RelationsBoundariesTest::firstDigit);
         Check.sentence("Promise 1", "until one isn't a prime: none behind it", RelationsBoundariesTest::laterDigit);
-        Check.sentence("Promise 1", "until the product would be above 128: 128 is not", RelationsBoundariesTest::just128);
+        Check.sentence("Promise 1", "until the product would be above 128: 128 is not",
+            RelationsBoundariesTest::just128);
         Check.sentence("Promise 1", "until the product would be above 128: 130 is", RelationsBoundariesTest::above128);
-        Check.sentence("Promise 1", "until the product would be above 128: none behind it", RelationsBoundariesTest::noneBehindTooLarge);
+        Check.sentence("Promise 1", "until the product would be above 128: none behind it",
+            RelationsBoundariesTest::noneBehindTooLarge);
         Check.sentence("Promise 1", "orders with the sign bit", RelationsBoundariesTest::negativeOrders);
         Check.sentence("Promise 1", "not fixed", RelationsBoundariesTest::newIsNotFixed);
     }
 
     private static void generators() {
         Check.sentence("Promise 2", "with none N is 1", RelationsBoundariesTest::noGenerators);
-        Check.sentence("Promise 2", "how many generators there are: 1 .. 7", RelationsBoundariesTest::countsOfGenerators);
+        Check.sentence("Promise 2", "how many generators there are: 1 .. 7",
+            RelationsBoundariesTest::countsOfGenerators);
         Check.sentence("Promise 2", "the same in every state", RelationsBoundariesTest::generatorsInEveryState);
         Check.sentence("Promise 3", "N: 1, 2, 128", RelationsBoundariesTest::sizes);
         Check.sentence("Promise 3", "the same in every state", RelationsBoundariesTest::sizeInEveryState);
         Check.sentence("Promise 4", "t(i), the first and the last", RelationsBoundariesTest::outermostGenerators);
         Check.sentence("Promise 4", "NONE when there is no generator i: below 0", () -> noGenerator(-1, -2, -7, LEAST));
-        Check.sentence("Promise 4", "NONE when there is no generator i: too large", () -> noGenerator(3, 4, 6, 7, 8, MOST));
-        Check.sentence("Promise 4", "NONE when there is no generator at all", RelationsBoundariesTest::noGeneratorAtAll);
+        Check.sentence("Promise 4", "NONE when there is no generator i: too large",
+            () -> noGenerator(3, 4, 6, 7, 8, MOST));
+        Check.sentence("Promise 4", "NONE when there is no generator at all",
+            RelationsBoundariesTest::noGeneratorAtAll);
         Check.sentence("Promise 4", "the same in every state", RelationsBoundariesTest::generatorInEveryState);
     }
 
     private static void powers() {
         Check.sentence("Promise 5", "true for w from 0 to t(i) - 1", RelationsBoundariesTest::powerAccepts);
-        Check.sentence("Promise 5", "p(i) becomes the word: the last call counts", RelationsBoundariesTest::powerLastCounts);
+        Check.sentence("Promise 5", "p(i) becomes the word: the last call counts",
+            RelationsBoundariesTest::powerLastCounts);
         Check.sentence("Promise 5", "false when the relations are fixed", RelationsBoundariesTest::powerFixed);
-        Check.sentence("Promise 5", "false when there is no generator i: below 0", () -> powerRefused(0, -1, -2, LEAST));
-        Check.sentence("Promise 5", "false when there is no generator i: too large", () -> powerRefused(0, 3, 4, 7, MOST));
+        Check.sentence("Promise 5", "false when there is no generator i: below 0",
+            () -> powerRefused(0, -1, -2, LEAST));
+        Check.sentence("Promise 5", "false when there is no generator i: too large",
+            () -> powerRefused(0, 3, 4, 7, MOST));
         Check.sentence("Promise 5", "false when there is no generator at all", RelationsBoundariesTest::powerOfNone);
         Check.sentence("Promise 5", "false when w is below 0", RelationsBoundariesTest::powerBelowZero);
         Check.sentence("Promise 5", "false when w is t(i) or above", RelationsBoundariesTest::powerTooLarge);
@@ -53,11 +61,13 @@ public final class RelationsBoundariesTest {
 
     private static void conjugates() {
         Check.sentence("Promise 6", "true for w from 0 to t(i) - 1", RelationsBoundariesTest::conjugateAccepts);
-        Check.sentence("Promise 6", "c(i, j) becomes the word: the last call counts", RelationsBoundariesTest::conjugateLastCounts);
+        Check.sentence("Promise 6", "c(i, j) becomes the word: the last call counts",
+            RelationsBoundariesTest::conjugateLastCounts);
         Check.sentence("Promise 6", "false when the relations are fixed", RelationsBoundariesTest::conjugateFixed);
         Check.sentence("Promise 6", "false when there is no generator i", RelationsBoundariesTest::conjugateNoI);
         Check.sentence("Promise 6", "false when there is no generator j", RelationsBoundariesTest::conjugateNoJ);
-        Check.sentence("Promise 6", "false when there is no generator at all", RelationsBoundariesTest::conjugateOfNone);
+        Check.sentence("Promise 6", "false when there is no generator at all",
+            RelationsBoundariesTest::conjugateOfNone);
         Check.sentence("Promise 6", "false when i is j", RelationsBoundariesTest::conjugateSame);
         Check.sentence("Promise 6", "false when i is greater than j", RelationsBoundariesTest::conjugateGreater);
         Check.sentence("Promise 6", "false when w is below 0", RelationsBoundariesTest::conjugateBelowZero);
@@ -69,21 +79,34 @@ public final class RelationsBoundariesTest {
         Check.sentence("Promise 7", "consistent with one generator", RelationsBoundariesTest::fixSingle);
         Check.sentence("Promise 7", "consistent at the largest size", RelationsBoundariesTest::fixLargest);
         Check.sentence("Promise 7", "not consistent: a conjugate that is 0", RelationsBoundariesTest::fixLostLetter);
-        Check.sentence("Promise 7", "not consistent: two conjugates that are the same", RelationsBoundariesTest::fixMerged);
-        Check.sentence("Promise 7", "not consistent: a power that g(i) changes", RelationsBoundariesTest::fixChangedPower);
-        Check.sentence("Promise 7", "not consistent: r(i) turns are not the turn by p(i)", RelationsBoundariesTest::fixTurns);
-        Check.sentence("Promise 7", "consistent: r(i) turns are a turn by p(i) that is none of 0", RelationsBoundariesTest::fixTurnByPower);
-        Check.sentence("Promise 7", "not consistent: a turn that breaks a power", RelationsBoundariesTest::fixBrokenPower);
-        Check.sentence("Promise 7", "not consistent: a turn that breaks a conjugate", RelationsBoundariesTest::fixBrokenConjugate);
-        Check.sentence("Promise 7", "not consistent: among the last generators alone", RelationsBoundariesTest::fixBehind);
+        Check.sentence("Promise 7", "not consistent: two conjugates that are the same",
+            RelationsBoundariesTest::fixMerged);
+        Check.sentence("Promise 7", "not consistent: a power that g(i) changes",
+            RelationsBoundariesTest::fixChangedPower);
+        Check.sentence("Promise 7", "not consistent: r(i) turns are not the turn by p(i)",
+            RelationsBoundariesTest::fixTurns);
+        Check.sentence("Promise 7", "consistent: r(i) turns are a turn by p(i) that is none of 0",
+            RelationsBoundariesTest::fixTurnByPower);
+        Check.sentence("Promise 7", "not consistent: a turn that breaks a power",
+            RelationsBoundariesTest::fixBrokenPower);
+        Check.sentence("Promise 7", "not consistent: a turn that breaks a conjugate",
+            RelationsBoundariesTest::fixBrokenConjugate);
+        Check.sentence("Promise 7", "not consistent: among the last generators alone",
+            RelationsBoundariesTest::fixBehind);
         Check.sentence("Promise 7", "not consistent: then not fixed", RelationsBoundariesTest::fixRefusedNotFixed);
-        Check.sentence("Promise 7", "every place has the subgroup of 0 alone then", RelationsBoundariesTest::fixEmptiesPlaces);
-        Check.sentence("Promise 7", "every place has 0 alone also in a group changed meanwhile", RelationsBoundariesTest::fixEmptiesChanged);
+        Check.sentence("Promise 7", "every place has the subgroup of 0 alone then",
+            RelationsBoundariesTest::fixEmptiesPlaces);
+        Check.sentence("Promise 7", "every place has 0 alone also in a group changed meanwhile",
+            RelationsBoundariesTest::fixEmptiesChanged);
         Check.sentence("Promise 7", "if they were fixed already nothing changes", RelationsBoundariesTest::fixTwice);
-        Check.sentence("Promise 7", "answers whether they are consistent: fixed already", RelationsBoundariesTest::fixTwiceAnswers);
-        Check.sentence("Promise 7", "a refused fix after a good one does not keep the old group", RelationsBoundariesTest::fixAfterOther);
-        Check.sentence("Promise 7", "nothing is left of a group that was fixed before", RelationsBoundariesTest::fixChangedGroup);
-        Check.sentence("Promise 7", "the words after a refused fix are those of the next one", RelationsBoundariesTest::fixAfterRefused);
+        Check.sentence("Promise 7", "answers whether they are consistent: fixed already",
+            RelationsBoundariesTest::fixTwiceAnswers);
+        Check.sentence("Promise 7", "a refused fix after a good one does not keep the old group",
+            RelationsBoundariesTest::fixAfterOther);
+        Check.sentence("Promise 7", "nothing is left of a group that was fixed before",
+            RelationsBoundariesTest::fixChangedGroup);
+        Check.sentence("Promise 7", "the words after a refused fix are those of the next one",
+            RelationsBoundariesTest::fixAfterRefused);
     }
 
     private static void releasing() {
@@ -94,10 +117,12 @@ public final class RelationsBoundariesTest {
         Check.sentence("Promise 8", "has() is false", RelationsBoundariesTest::releaseHas);
         Check.sentence("Promise 8", "(F) calls answer NONE till they are again", RelationsBoundariesTest::releaseNone);
         Check.sentence("Promise 8", "power and conjugate are taken again", RelationsBoundariesTest::releaseOpens);
-        Check.sentence("Promise 9", "false at first", () -> Check.due("fixed()", new CollectedGroup(0x32).fixed(), false));
+        Check.sentence("Promise 9", "false at first",
+            () -> Check.due("fixed()", new CollectedGroup(0x32).fixed(), false));
         Check.sentence("Promise 9", "true after fix, also after a second one", RelationsBoundariesTest::fixedAfterFix);
         Check.sentence("Promise 9", "false after a refused fix", RelationsBoundariesTest::fixedAfterRefused);
-        Check.sentence("Promise 9", "false after release, true after the next fix", RelationsBoundariesTest::fixedAfterRelease);
+        Check.sentence("Promise 9", "false after release, true after the next fix",
+            RelationsBoundariesTest::fixedAfterRelease);
     }
 
     private static void made(int orders, int generators, int size) {

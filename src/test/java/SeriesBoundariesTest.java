@@ -6,10 +6,12 @@ public final class SeriesBoundariesTest {
 
     public static void main(String[] args) {
         Check.sentence("Promise 21", "the whole group is the 0-th", SeriesBoundariesTest::derivedZero);
-        Check.sentence("Promise 21", "each further one the commutator subgroup of the one before", SeriesBoundariesTest::derivedSteps);
+        Check.sentence("Promise 21", "each further one the commutator subgroup of the one before",
+            SeriesBoundariesTest::derivedSteps);
         Check.sentence("Promise 21", "k far behind the last step", SeriesBoundariesTest::derivedFar);
         Check.sentence("Promise 21", "NONE also when k is below 0", SeriesBoundariesTest::derivedBelowZero);
-        Check.sentence("Promise 21", "NONE when k is below 0 and the relations aren't fixed", SeriesBoundariesTest::derivedNotFixed);
+        Check.sentence("Promise 21", "NONE when k is below 0 and the relations aren't fixed",
+            SeriesBoundariesTest::derivedNotFixed);
         Check.sentence("Promise 21", "the places play no part and stay", () -> placesStay(FixedCall.DERIVED));
         Check.sentence("Promise 22", "likewise: the whole group is the 0-th", SeriesBoundariesTest::lowerZero);
         Check.sentence("Promise 22", "the one before and the whole group", SeriesBoundariesTest::lowerSteps);
@@ -17,7 +19,8 @@ public final class SeriesBoundariesTest {
         Check.sentence("Promise 22", "the longest row that N of 128 has room for", SeriesBoundariesTest::lowerLongest);
         Check.sentence("Promise 22", "k far behind the last step", SeriesBoundariesTest::lowerFar);
         Check.sentence("Promise 22", "likewise: NONE also when k is below 0", SeriesBoundariesTest::lowerBelowZero);
-        Check.sentence("Promise 22", "likewise: NONE when k is below 0 and not fixed", SeriesBoundariesTest::lowerNotFixed);
+        Check.sentence("Promise 22", "likewise: NONE when k is below 0 and not fixed",
+            SeriesBoundariesTest::lowerNotFixed);
         Check.sentence("Promise 22", "the places play no part and stay", () -> placesStay(FixedCall.LOWER));
         Check.sentence("Promise 23", "1 when 0 alone is its own conjugate by all", SeriesBoundariesTest::centreOne);
         Check.sentence("Promise 23", "N when all are", SeriesBoundariesTest::centreAll);
@@ -33,13 +36,15 @@ public final class SeriesBoundariesTest {
         Check.sentence("Promise 26", "the least number: itself when it is the least", SeriesBoundariesTest::headItself);
         Check.sentence("Promise 26", "the least number of all in the class", SeriesBoundariesTest::headLeast);
         Check.sentence("Promise 26", "NONE when an element isn't 0 .. N - 1", () -> noElement(FixedCall.HEAD));
-        Check.sentence("Promises 23 to 26", "the places play no part and stay", SeriesBoundariesTest::classesLeavePlaces);
+        Check.sentence("Promises 23 to 26", "the places play no part and stay",
+            SeriesBoundariesTest::classesLeavePlaces);
         Check.end();
     }
 
     private static void zeroIsWhole(FixedCall call) {
         int[] sizes = {1, 2, 6, 24, 128};
-        CollectedGroup[] groups = {Groups.one(), Groups.plain(0x2), Groups.symmetric3(), Groups.symmetric4(), Groups.cyclic128()};
+        CollectedGroup[] groups = {Groups.one(), Groups.plain(0x2), Groups.symmetric3(),
+            Groups.symmetric4(), Groups.cyclic128()};
         for (int k = 0; k < sizes.length; k++) {
             Check.due(call.named(0), call.answer(groups[k], 0), sizes[k]);
         }

@@ -9,7 +9,8 @@ public final class SubgroupsBoundariesTest {
         Check.sentence("Promise 15", "becomes that of 0 alone: of the whole group", SubgroupsBoundariesTest::clearFull);
         Check.sentence("Promise 15", "becomes that of 0 alone: of 0 alone", SubgroupsBoundariesTest::clearEmpty);
         Check.sentence("Promise 15", "the subgroup in place s, and no other", SubgroupsBoundariesTest::clearOne);
-        Check.sentence("Promise 15", "what was there before generates nothing later", SubgroupsBoundariesTest::clearForgets);
+        Check.sentence("Promise 15", "what was there before generates nothing later",
+            SubgroupsBoundariesTest::clearForgets);
         Check.sentence("Promise 15", "NONE when a place isn't 0 .. 3", () -> noPlace(FixedCall.CLEAR));
         Check.sentence("Promise 16", "join 0", SubgroupsBoundariesTest::joinZero);
         Check.sentence("Promise 16", "join what is there already", SubgroupsBoundariesTest::joinAgain);
@@ -17,7 +18,8 @@ public final class SubgroupsBoundariesTest {
         Check.sentence("Promise 16", "join the last element", SubgroupsBoundariesTest::joinLast);
         Check.sentence("Promise 16", "join seven times, twice as many each time", SubgroupsBoundariesTest::joinSeven);
         Check.sentence("Promise 16", "join one element that generates all", SubgroupsBoundariesTest::joinCyclic);
-        Check.sentence("Promise 16", "what its elements and a generate, not their union", SubgroupsBoundariesTest::joinGenerates);
+        Check.sentence("Promise 16", "what its elements and a generate, not their union",
+            SubgroupsBoundariesTest::joinGenerates);
         Check.sentence("Promise 16", "the subgroup in place s, and no other", SubgroupsBoundariesTest::joinOne);
         Check.sentence("Promise 16", "NONE when a place isn't 0 .. 3", () -> noPlace(FixedCall.JOIN));
         Check.sentence("Promise 16", "NONE when an element isn't 0 .. N - 1", SubgroupsBoundariesTest::joinNoElement);
@@ -25,8 +27,10 @@ public final class SubgroupsBoundariesTest {
         Check.sentence("Promise 17", "spread the whole group", SubgroupsBoundariesTest::spreadFull);
         Check.sentence("Promise 17", "spread what its conjugates leave", SubgroupsBoundariesTest::spreadNormal);
         Check.sentence("Promise 17", "spread a second time", SubgroupsBoundariesTest::spreadTwice);
-        Check.sentence("Promise 17", "what all conjugates generate, not themselves alone", SubgroupsBoundariesTest::spreadGenerates);
-        Check.sentence("Promise 17", "conjugates of conjugates, at the largest size", SubgroupsBoundariesTest::spreadLargest);
+        Check.sentence("Promise 17", "what all conjugates generate, not themselves alone",
+            SubgroupsBoundariesTest::spreadGenerates);
+        Check.sentence("Promise 17", "conjugates of conjugates, at the largest size",
+            SubgroupsBoundariesTest::spreadLargest);
         Check.sentence("Promise 17", "the subgroup in place s, and no other", SubgroupsBoundariesTest::spreadOne);
         Check.sentence("Promise 17", "NONE when a place isn't 0 .. 3", () -> noPlace(FixedCall.SPREAD));
         Check.sentence("Promise 18", "u may be s", SubgroupsBoundariesTest::commuteIntoFirst);
@@ -35,7 +39,8 @@ public final class SubgroupsBoundariesTest {
         Check.sentence("Promise 18", "s may be t", SubgroupsBoundariesTest::commuteWithItself);
         Check.sentence("Promise 18", "with 0 alone", SubgroupsBoundariesTest::commuteWithEmpty);
         Check.sentence("Promise 18", "of subgroups that commute", SubgroupsBoundariesTest::commuteCommuting);
-        Check.sentence("Promise 18", "what all commutators generate, not those of a few", SubgroupsBoundariesTest::commuteAll);
+        Check.sentence("Promise 18", "what all commutators generate, not those of a few",
+            SubgroupsBoundariesTest::commuteAll);
         Check.sentence("Promise 18", "place u gets it, whatever it had", SubgroupsBoundariesTest::commuteOverwrites);
         Check.sentence("Promise 18", "s and t stay when u is another", SubgroupsBoundariesTest::commuteLeavesOthers);
         Check.sentence("Promise 18", "NONE when s, t or u isn't 0 .. 3", SubgroupsBoundariesTest::commuteRefused);

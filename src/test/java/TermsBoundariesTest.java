@@ -4,8 +4,10 @@ public final class TermsBoundariesTest {
 
     public static void main(String[] args) {
         Check.sentence("What it is", "at most 512 calls after an object has been made", TermsBoundariesTest::fullRuns);
-        Check.sentence("What it is", "at most 512 calls, all of them refused but the last", TermsBoundariesTest::refusedRun);
-        Check.sentence("What it is", "at most 512 calls, with fix and release in turn", TermsBoundariesTest::fixAndReleaseRun);
+        Check.sentence("What it is", "at most 512 calls, all of them refused but the last",
+            TermsBoundariesTest::refusedRun);
+        Check.sentence("What it is", "at most 512 calls, with fix and release in turn",
+            TermsBoundariesTest::fixAndReleaseRun);
         Check.sentence("Terms", "at most 7 generators", TermsBoundariesTest::sevenGenerators);
         Check.sentence("Terms", "e(i) from 0 to r(i) - 1", TermsBoundariesTest::exponents);
         Check.sentence("Terms", "one more than r(i) - 1 wraps round to p(i)", TermsBoundariesTest::wrapAround);
@@ -17,17 +19,23 @@ public final class TermsBoundariesTest {
         Check.sentence("Terms", "p(i) is a word below t(i): the last one's is 0", TermsBoundariesTest::lastPower);
         Check.sentence("Terms", "p(i) is a word below t(i): the largest", TermsBoundariesTest::largestPower);
         Check.sentence("Terms", "c(i, j) is a word below t(i): the largest", TermsBoundariesTest::largestConjugate);
-        Check.sentence("Terms", "c(i, j) is a word below t(i), in front of g(j) too", TermsBoundariesTest::conjugateBeforeItsLetter);
+        Check.sentence("Terms", "c(i, j) is a word below t(i), in front of g(j) too",
+            TermsBoundariesTest::conjugateBeforeItsLetter);
         Check.sentence("Terms", "at first p(i) is 0", TermsBoundariesTest::firstPowers);
         Check.sentence("Terms", "at first c(i, j) is g(j) alone", TermsBoundariesTest::firstConjugates);
-        Check.sentence("Terms", "consistent when no two different normal words are equal", TermsBoundariesTest::noTwoEqual);
-        Check.sentence("Terms", "while the relations are fixed they cannot be changed", TermsBoundariesTest::notChangedWhileFixed);
+        Check.sentence("Terms", "consistent when no two different normal words are equal",
+            TermsBoundariesTest::noTwoEqual);
+        Check.sentence("Terms", "while the relations are fixed they cannot be changed",
+            TermsBoundariesTest::notChangedWhileFixed);
         Check.sentence("Terms", "the inverse of a is the one whose product with a is 0", TermsBoundariesTest::inverses);
         Check.sentence("Terms", "subgroups are kept in four places 0 .. 3", TermsBoundariesTest::fourPlaces);
         Check.sentence("Terms", "a subgroup has 0", TermsBoundariesTest::subgroupsHaveZero);
-        Check.sentence("Terms", "a subgroup has, with any two, their product", TermsBoundariesTest::subgroupsHaveProducts);
-        Check.sentence("Terms", "what some elements generate is the least subgroup", TermsBoundariesTest::leastSubgroup);
-        Check.sentence("Terms", "a class is the set of all conjugates of one element", TermsBoundariesTest::classesPartTheGroup);
+        Check.sentence("Terms", "a subgroup has, with any two, their product",
+            TermsBoundariesTest::subgroupsHaveProducts);
+        Check.sentence("Terms", "what some elements generate is the least subgroup",
+            TermsBoundariesTest::leastSubgroup);
+        Check.sentence("Terms", "a class is the set of all conjugates of one element",
+            TermsBoundariesTest::classesPartTheGroup);
         Check.end();
     }
 
