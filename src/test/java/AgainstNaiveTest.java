@@ -28,6 +28,11 @@ public final class AgainstNaiveTest {
         {{2, 3, 13}, {1, 2, 3}, {0, 2, 12}},
     };
 
+    /** Few enough relations to look at all of them, the greatest and least words among them. */
+    private static final int[][] SMALL_ORDERS = {
+        {2, 2}, {2, 3}, {3, 2}, {3, 3}, {2, 5}, {5, 2}, {2, 13}, {3, 7}, {2, 2, 2}, {3, 2, 2}, {2, 3, 2}, {2, 2, 3}
+    };
+
     private static long seed = 20261115L;
     private static CollectedGroup group;
     private static int callsLeft;
@@ -48,12 +53,34 @@ public final class AgainstNaiveTest {
                 builtRelations(orders);
             }
         }
+        earlier = null;
+        for (int[] orders : SMALL_ORDERS) {
+            allRelations(new NaiveGroup(orders), 0, 0);
+        }
         Check.end();
     }
 
     private static int below(int limit) {
         seed = seed * 6364136223846793005L + 1442695040888963407L;
         return (int) ((seed >>> 33) % limit);
+    }
+
+    /** Every word for the power of g(i) (j is i) and for its conjugates from g(j) on, and so for all behind it. */
+    private static void allRelations(NaiveGroup naive, int i, int j) {
+        if (i == naive.orders.length) {
+            CollectedGroup x = withRelations(naive);
+            Check.due(named(naive, "fix()"), x.fix(), naive.consistent());
+            return;
+        }
+        boolean lastOfRow = j + 1 == naive.orders.length;
+        for (int w = 0; w < naive.weights[i]; w++) {
+            if (i == j) {
+                naive.powers[i] = w;
+            } else {
+                naive.conjugates[i][j] = w;
+            }
+            allRelations(naive, lastOfRow ? i + 1 : i, lastOfRow ? i + 1 : j + 1);
+        }
     }
 
     /** Mostly not consistent: what fix answers is what is looked at. */
