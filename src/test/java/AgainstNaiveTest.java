@@ -33,7 +33,7 @@ public final class AgainstNaiveTest {
         {2, 2}, {2, 3}, {3, 2}, {3, 3}, {2, 5}, {5, 2}, {2, 13}, {3, 7}, {2, 2, 2}, {3, 2, 2}, {2, 3, 2}, {2, 2, 3}
     };
 
-    private static long seed = 20261115L;
+    private static final Draw DRAW = new Draw(20261115L);
     private static CollectedGroup group;
     private static int callsLeft;
     /** What an object is fixed to before it is released and given the relations to be looked at. */
@@ -60,11 +60,6 @@ public final class AgainstNaiveTest {
         Check.end();
     }
 
-    private static int below(int limit) {
-        seed = seed * 6364136223846793005L + 1442695040888963407L;
-        return (int) ((seed >>> 33) % limit);
-    }
-
     /** Every word for the power of g(i) (j is i) and for its conjugates from g(j) on, and so for all behind it. */
     private static void allRelations(NaiveGroup naive, int i, int j) {
         if (i == naive.orders.length) {
@@ -86,13 +81,13 @@ public final class AgainstNaiveTest {
     /** Mostly not consistent: what fix answers is what is looked at. */
     private static void anyRelations(int[] orders) {
         NaiveGroup naive = new NaiveGroup(orders);
-        for (int changes = 1 + below(3); changes > 0; changes--) {
-            int i = below(orders.length);
-            if (below(3) == 0) {
-                naive.powers[i] = below(naive.weights[i]);
+        for (int changes = 1 + DRAW.below(3); changes > 0; changes--) {
+            int i = DRAW.below(orders.length);
+            if (DRAW.below(3) == 0) {
+                naive.powers[i] = DRAW.below(naive.weights[i]);
             } else if (i + 1 < orders.length) {
-                int j = i + 1 + below(orders.length - i - 1);
-                naive.conjugates[i][j] = below(naive.weights[i]);
+                int j = i + 1 + DRAW.below(orders.length - i - 1);
+                naive.conjugates[i][j] = DRAW.below(naive.weights[i]);
             }
         }
         boolean consistent = naive.consistent();
@@ -104,12 +99,9 @@ public final class AgainstNaiveTest {
         }
     }
 
-    /** Relations chosen from the last generator on, so that most are consistent and far from trivial. */
     private static void builtRelations(int[] orders) {
         NaiveGroup naive = new NaiveGroup(orders);
-        for (int i = orders.length - 1; i >= 0; i--) {
-            chooseLevel(naive, i);
-        }
+        DRAW.consistentRelations(naive);
         lookAt(naive);
         earlier = naive;
     }
@@ -133,26 +125,6 @@ public final class AgainstNaiveTest {
         lookAtPairs(naive);
         lookAtSubgroups(naive);
         lookAtAll(naive);
-    }
-
-    private static void chooseLevel(NaiveGroup naive, int i) {
-        for (int attempt = 0; attempt < 60; attempt++) {
-            naive.powers[i] = below(2) == 0 ? 0 : below(naive.weights[i]);
-            for (int j = i + 1; j < naive.orders.length; j++) {
-                int kind = below(3);
-                int weight = naive.weights[j];
-                naive.conjugates[i][j] = kind == 0 ? weight
-                    : kind == 1 ? weight * (1 + below(naive.orders[j] - 1)) + below(weight)
-                    : below(naive.weights[i]);
-            }
-            if (naive.consistentFrom(i)) {
-                return;
-            }
-        }
-        naive.powers[i] = 0;
-        for (int j = i + 1; j < naive.orders.length; j++) {
-            naive.conjugates[i][j] = naive.weights[j];
-        }
     }
 
     private static CollectedGroup withRelations(NaiveGroup naive) {
@@ -198,9 +170,9 @@ public final class AgainstNaiveTest {
         renew(naive);
         Check.due(named(naive, "size()"), group.size(), naive.size);
         for (int k = 0; k < 40; k++) {
-            int a = below(naive.size);
-            int b = below(naive.size);
-            int n = below(4) == 0 ? below(1 << 30) * 4 : below(300) - 150;
+            int a = DRAW.below(naive.size);
+            int b = DRAW.below(naive.size);
+            int n = DRAW.below(4) == 0 ? DRAW.below(1 << 30) * 4 : DRAW.below(300) - 150;
             Check.due(named(naive, "product"), group.product(a, b), naive.product(a, b));
             Check.due(named(naive, "times"), group.times(a, n), naive.times(a, n));
             Check.due(named(naive, "conjugated"), group.conjugated(a, b), naive.conjugated(a, b));
@@ -224,8 +196,8 @@ public final class AgainstNaiveTest {
     private static void lookAtPairs(NaiveGroup naive) {
         renew(naive);
         for (int k = 0; k < 40; k++) {
-            int a = below(naive.size);
-            int b = below(naive.size);
+            int a = DRAW.below(naive.size);
+            int b = DRAW.below(naive.size);
             boolean[] s = naive.joined(naive.trivial(), a);
             boolean[] t = naive.joined(naive.trivial(), b);
             group.clear(0);
@@ -242,12 +214,12 @@ public final class AgainstNaiveTest {
         renew(naive);
         boolean[][] places = {naive.trivial(), naive.trivial(), naive.trivial(), naive.trivial()};
         for (int step = 0; step < 40; step++) {
-            int s = below(4);
-            int t = below(4);
-            int u = below(4);
-            int a = below(naive.size);
+            int s = DRAW.below(4);
+            int t = DRAW.below(4);
+            int u = DRAW.below(4);
+            int a = DRAW.below(naive.size);
             int got;
-            switch (below(6)) {
+            switch (DRAW.below(6)) {
                 case 0 -> {
                     places[u] = naive.trivial();
                     got = group.clear(u);
@@ -272,7 +244,7 @@ public final class AgainstNaiveTest {
             }
         }
         for (int a = 0; a < naive.size && a < 40; a++) {
-            int element = naive.size <= 40 ? a : below(naive.size);
+            int element = naive.size <= 40 ? a : DRAW.below(naive.size);
             for (int p = 0; p < 4; p++) {
                 Check.due(named(naive, "has"), group.has(p, element), places[p][element]);
             }
